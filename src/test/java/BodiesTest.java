@@ -45,6 +45,14 @@ public final class BodiesTest {
         due.is("common of large ones, back", x.common(6, 5), 36);
         due.is("common of larger parts", x.common(5, 7), 20);
         due.is("common by 35", x.common(6, 7), 65 * 21);
+        MaskTouch far = Due.field("mask box 100 2;body 0 0 0;body 0 0 1");
+        for (int dx = -101; dx <= 101; dx++) {
+            far.place(1, dx, 1);
+            due.is("common by " + dx, far.common(0, 1), Math.max(0, 100 - Math.abs(dx)));
+            due.is("common back by " + dx, far.common(1, 0), Math.max(0, 100 - Math.abs(dx)));
+            due.is("touching by " + dx, far.touching(0), Math.abs(dx) < 100 ? 2 : 0);
+            due.is("meet by " + dx, far.meet(0, 1, 0), Math.abs(dx) < 100 ? Math.max(dx, 0) : -2000);
+        }
         due.is("common with itself", x.common(0, 0), -1);
         due.is("common of no body", x.common(8, 0), -1);
         due.is("common with no body", x.common(0, 8), -1);
@@ -71,6 +79,11 @@ public final class BodiesTest {
         due.is("meet what -1", x.meet(0, 1, -1), -2000);
         due.is("meet no body", x.meet(0, 7, 0), -2000);
         due.is("meet of no body", x.meet(7, 0, 0), -2000);
+        MaskTouch tall = Due.field("mask frame 9 40;mask frame 7 38;body 0 0 0;body 1 1 1;body 1 1 4");
+        due.is("meet not within a frame", tall.meet(0, 1, 0), -2000);
+        due.is("meet not within a frame, back", tall.meet(1, 0, 0), -2000);
+        due.is("meet at a frame's foot: y", tall.meet(0, 2, 1), 39);
+        due.is("meet at a frame's foot: x", tall.meet(2, 0, 0), 1);
         MaskTouch y = Due.field("mask ..#/##.;body 0 5 5;body 0 5 5;body 0 4 5");
         due.is("meet: the least y first", y.meet(0, 1, 1), 5);
         due.is("meet: its x", y.meet(0, 1, 0), 7);

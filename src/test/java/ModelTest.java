@@ -18,6 +18,7 @@ public final class ModelTest {
 
     private final Random random;
     private final int size; // about how wide the places are on which bodies lie
+    private final boolean wide; // whether most masks reach into the second word of their rows
     private final MaskTouch real = new MaskTouch();
     private final PlainModel model = new PlainModel();
     private final StringBuilder log = new StringBuilder();
@@ -25,10 +26,11 @@ public final class ModelTest {
     private ModelTest(long seed) {
         random = new Random(seed);
         size = new int[] {12, 30, 80, 999}[random.nextInt(4)];
+        wide = random.nextInt(5) == 0;
     }
 
     public static void main(String[] args) throws Exception {
-        int runs = args.length > 0 ? Integer.parseInt(args[0]) : 1500;
+        int runs = args.length > 0 ? Integer.parseInt(args[0]) : 2000;
         long from = args.length > 1 ? Long.parseLong(args[1]) : 1;
         int wrong = 0;
         for (long seed = from; seed < from + runs && wrong < 5; seed++) {
@@ -177,6 +179,10 @@ public final class ModelTest {
         StringBuilder text = new StringBuilder();
         int told = 0;
         for (String part : parts) {
+            // A text that would be too long for the tape is told without its last parts.
+            if (text.length() + (part == null ? 45 : part.length() + 5) > 400) {
+                break;
+            }
             text.append(text.length() > 0 ? ";" : "").append(blanks());
             if (part != null) {
                 text.append(part);
@@ -204,8 +210,8 @@ public final class ModelTest {
     }
 
     private String form() {
-        boolean large = random.nextInt(12) == 0;
-        int w = 1 + random.nextInt(large ? 100 : 9);
+        boolean large = random.nextInt(wide ? 2 : 12) == 0;
+        int w = wide && large ? 60 + random.nextInt(41) : 1 + random.nextInt(large ? 100 : 9);
         int h = 1 + random.nextInt(large ? 40 : 9);
         switch (random.nextInt(6)) {
             case 0:
@@ -215,7 +221,7 @@ public final class ModelTest {
             case 2:
                 return "disk " + random.nextInt(large ? 20 : 4);
             default:
-                int rows = Math.max(1, Math.min(h, 60 / w));
+                int rows = Math.max(1, Math.min(h, (wide ? 200 : 60) / w));
                 int rare = 2 + random.nextInt(5);
                 StringBuilder text = new StringBuilder();
                 for (int y = 0; y < rows; y++) {
