@@ -1146,6 +1146,12 @@ public final class MaskTouch {
                 && one.top <= two.bottom + dy && two.top + dy <= one.bottom;
         }
 
+        /** How many places boxes of dots that share some have in common if two lies dx, dy farther. */
+        static int boxPlaces(Mask one, Mask two, int dx, int dy) {
+            return (Math.min(one.right, two.right + dx) - Math.max(one.left, two.left + dx) + 1)
+                * (Math.min(one.bottom, two.bottom + dy) - Math.max(one.top, two.top + dy) + 1);
+        }
+
         /** How many places one and two have in common if two lies dx, dy farther. */
         static int shared(Mask one, Mask two, int dx, int dy) {
             if (!boxesShare(one, two, dx, dy)) {
@@ -1591,15 +1597,22 @@ public final class MaskTouch {
             if (a.total == 0 || b.total == 0) {
                 return;
             }
+            // Middle on middle is seldom bad: what cannot be as good is passed over.
+            int sure = Mask.shared(a, b, (a.left + a.right - b.left - b.right) / 2,
+                (a.top + a.bottom - b.top - b.bottom) / 2);
             for (int down = a.bottom - b.top; down >= a.top - b.bottom; down--) {
-                if (mostIfDown(a, b, down) > found) {
-                    for (int right = a.right - b.left; right >= a.left - b.right; right--) {
-                        int many = Mask.shared(a, b, right, down);
-                        if (many > found) {
-                            found = many;
-                            foundX = x - right;
-                            foundY = y - down;
-                        }
+                if (mostIfDown(a, b, down) < Math.max(sure, found + 1)) {
+                    continue;
+                }
+                for (int right = a.right - b.left; right >= a.left - b.right; right--) {
+                    if (Mask.boxPlaces(a, b, right, down) < Math.max(sure, found + 1)) {
+                        continue;
+                    }
+                    int many = Mask.shared(a, b, right, down);
+                    if (many > found) {
+                        found = many;
+                        foundX = x - right;
+                        foundY = y - down;
                     }
                 }
             }
