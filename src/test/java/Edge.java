@@ -4,7 +4,8 @@ import java.util.List;
 /**
  * What the tests of boundary cases share: a call answers as due, and what it must leave alone is as it was.
  * Each case is asked of several objects that have been used already: some whose ring of acts is empty, some
- * where it is full (a refused call that were remembered would push out the oldest act).
+ * where it is full (a refused call that were remembered would push out the oldest act). No object is asked more
+ * than the 512 calls that the document speaks of.
  */
 final class Edge {
     interface Call {
@@ -31,8 +32,9 @@ final class Edge {
         if (Due.tell(x, field) < 0) {
             throw new IllegalStateException("a test's own text is no field: " + field);
         }
+        boolean hasMask = x.count(0) > 0;
         for (int i = 0; i < acts; i++) {
-            if (x.count(0) > 0) {
+            if (hasMask) {
                 x.turn(0, 0, 0);
             } else {
                 x.ticks(1);
@@ -92,11 +94,13 @@ final class Edge {
             text.append(x.count(what)).append(' ');
         }
         text.append(x.digest());
-        for (int i = 0; i < x.count(0); i++) {
+        int masks = x.count(0);
+        for (int i = 0; i < masks; i++) {
             text.append(' ').append(x.mask(i, 0));
         }
-        for (int i = 0; i < Math.min(x.count(1), MOST_BODIES_ASKED); i++) {
-            text.append(' ').append(x.touching(i));
+        int bodies = Math.min(x.count(1), MOST_BODIES_ASKED);
+        for (int i = 0; i < bodies; i++) {
+            text.append(' ').append(x.touching(i)).append(' ').append(x.at(x.body(i, 1), x.body(i, 2)));
         }
         return text.toString();
     }

@@ -553,6 +553,15 @@ public final class EdgeActsTest {
         edge.acts(text.toString(), "falls of ten, the uppermost first", x -> x.falls(), 10 * 1989);
         // As each SLIDE sets out anew: they touch, part, and then the one lies on the other.
         edge.acts("mask ##/##;body 0 0 900;body 0 0 901", "falls of two that touch", x -> x.falls(), 99 + 96);
+        MaskTouch x = Due.field("mask #;body 0 7 -999 moves 3 -3;body 0 -8 0 flip 2");
+        due.is("falls straight down", x.falls(), 1998 + 999);
+        int[] down = {0, 7, 999, 0, 1, 1, 3, -3};
+        for (int what = 0; what < 8; what++) {
+            due.is("fallen: " + what, x.body(0, what), down[what]);
+        }
+        due.is("fallen: the other one's x", x.body(1, 1), -8);
+        due.is("fallen: the other one's y", x.body(1, 2), 999);
+        due.is("fallen: ticks", x.count(6), 0);
     }
 
     // ---- crop and quarter
@@ -613,6 +622,27 @@ public final class EdgeActsTest {
             due.is("cropped: its dot stays, flip " + flip, x.at(-999 + moved[flip][0], -999 + moved[flip][1]), 1);
             due.is("cropped: W and H", 10 * x.mask(0, 0) + x.mask(0, 1), 11);
         }
+        MaskTouch x = Due.field("mask ....../..#.#./.#..../......;body 0 0 0;body 0 2 0");
+        due.is("crop to 4 by 2", x.crop(0), 8);
+        int[] told = {4, 2, 3, 0, 0, 3, 1, 3, 0, 12};
+        for (int what = 0; what < 10; what++) {
+            due.is("cropped to 4 by 2: " + what, x.mask(0, what), told[what]);
+        }
+        due.is("cropped to 4 by 2: row 0", x.row(0, 0, 0), 10);
+        due.is("cropped to 4 by 2: row 1", x.row(0, 1, 0), 1);
+        due.is("cropped to 4 by 2: all dots", x.count(2), 3);
+        due.is("cropped to 4 by 2: they touch", x.touching(0), 2);
+        // Ten bodies, all of the mask: each moves, or none.
+        MaskTouch ten = Due.field("mask .#" + ";body 0 998 5".repeat(10));
+        due.is("crop of ten", ten.crop(0), 1);
+        for (int i = 0; i < 10; i++) {
+            due.is("crop of ten: " + i, ten.body(i, 1), 999);
+        }
+        edge.still("mask .#" + ";body 0 998 5".repeat(9) + ";body 0 999 5", "crop of ten, the last beyond", t -> t.crop(0), -3);
+        // A body of a field that was told before is none.
+        MaskTouch anew = Due.field("mask .#;body 0 0 0;body 0 999 0");
+        Due.tell(anew, "mask .#;body 0 0 0");
+        due.is("crop with a body that is gone", anew.crop(0), 1);
     }
 
     private static void quarterUpTo40() {
@@ -713,6 +743,12 @@ public final class EdgeActsTest {
         due.is("two that meet: the first", both.body(0, 1), 2);
         due.is("two that meet: the second", both.body(1, 1), 3);
         due.is("two that meet: the second alone was stopped", both.body(0, 6) + 10 * both.body(1, 6), 22);
+        // One that is stopped at once stays, however far the one ahead of it went.
+        MaskTouch stays = Due.field("mask #;body 0 0 0 moves 5 7;body 0 50 50 moves 1 1;body 0 51 51");
+        due.is("one that stays", stays.ticks(1), 1);
+        due.is("one that stays: x", stays.body(1, 1), 50);
+        due.is("one that stays: y", stays.body(1, 2), 50);
+        due.is("one that stays: the one ahead", 10 * stays.body(0, 1) + stays.body(0, 2), 57);
     }
 
     // ---- in general

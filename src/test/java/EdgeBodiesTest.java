@@ -291,6 +291,18 @@ public final class EdgeBodiesTest {
         reached("mask #;body 0 998 0", 2, 0, 1, -2);
         reached("mask #;body 0 -999 0", -1, 0, 0, -2);
         reached("mask #;body 0 0 -998", 0, -9, 1, -2);
+        // What stopped it in one call stops it no more in the next.
+        MaskTouch again = Due.field("mask #;body 0 0 0;body 0 1 0");
+        due.is("reach: who", again.reach(0, 5, 0, 1), 1);
+        due.is("reach by nothing then: who", again.reach(0, 0, 0, 1), -2);
+        due.is("reach another way then: who", again.reach(0, -5, 0, 1), -2);
+        // A way that leads aside later on: what lies straight below stops it all the same.
+        for (int aside = -1; aside <= 1; aside++) {
+            reached("mask #;body 0 0 0;body 0 0 1", aside, 9, 0, 1);
+            reached("mask #;body 0 0 0;body 0 0 -1", aside, -9, 0, 1);
+            reached("mask #;body 0 0 0;body 0 1 0", 9, aside, 0, 1);
+            reached("mask #;body 0 0 0;body 0 -1 0", -9, aside, 0, 1);
+        }
         // It is told as slide() does it.
         MaskTouch x = Due.field("mask #;body 0 0 0;body 0 7 3");
         int steps = x.reach(0, 14, 6, 0);
@@ -428,12 +440,23 @@ public final class EdgeBodiesTest {
         bestIs("mask box 100 40;mask box 99 39;body 0 9 9;body 1 0 0", 99 * 39, -1, -1);
         bestIs("mask box 99 39;mask box 100 40;body 0 9 9;body 1 0 0", 99 * 39, 0, 0);
         bestIs("mask #" + ".".repeat(98) + "#;body 0 9 9;body 0 0 0", 2, 0, 0);
+        // Places that could have more in common by their boxes, but have just as many.
+        bestIs("mask #.#;mask #...#;body 0 9 9;body 1 0 0", 1, -2, 0);
+        bestIs("mask #/./#;mask #/././././#;body 0 9 9;body 1 0 0", 1, 0, -2);
+        bestIs("mask #.#/#.#;mask ##/##;body 0 9 9;body 1 0 0", 2, -2, 0);
     }
 
     private static void bestWithoutDots() {
         bestIs("mask .;mask #;body 0 -7 8;body 1 5 -6", 0, -7, 8);
         bestIs("mask .;mask #;body 1 -7 8;body 0 5 -6", 0, -7, 8);
         bestIs("mask .;body 0 -999 999;body 0 5 -6", 0, -999, 999);
+        MaskTouch x = Due.field("mask .;mask ##/##;body 1 1 1;body 1 1 1;body 0 4 5");
+        due.is("best of two", x.best(0, 1, 0), 4);
+        due.is("best with one without dots, then", x.best(0, 2, 0), 0);
+        due.is("apart of two", x.apart(0, 1, 0), 2);
+        due.is("best of one without dots, then", x.best(2, 0, 0), 0);
+        due.is("best of one without dots, then: y", x.best(2, 0, 2), 5);
+        due.is("apart of one without dots, then", x.apart(2, 0, 0), 0);
     }
 
     private static void slope() {
@@ -533,6 +556,12 @@ public final class EdgeBodiesTest {
         x.place(2, 2, 4);
         x.place(3, 9, 9);
         due.is("seen from a box of dots, flipped back", x.seen(0, 1), 1);
+        MaskTouch y = Due.field("mask ././././#;mask #;body 0 0 0;body 1 8 0;body 1 4 2;body 1 4 3");
+        due.is("seen from a box of dots below", y.seen(0, 1), 1);
+        y.flip(0, 2);
+        due.is("seen from a box of dots above", y.seen(0, 1), 0);
+        y.place(2, 4, 0);
+        due.is("seen from a box of dots above, on a third", y.seen(0, 1), 1);
     }
 
     private static void seenThird() {
@@ -554,6 +583,17 @@ public final class EdgeBodiesTest {
         edge.still("mask #;body 0 0 0;body 0 4 0;body 0 4 0", "seen with a third where it ends", x -> x.seen(0, 1), 1);
         edge.still("mask #;body 0 0 0;body 0 4 0;body 0 -1 0;body 0 5 0", "seen with thirds beyond", x -> x.seen(0, 1), 0);
         edge.still("mask #;body 0 0 0;body 0 4 0;body 0 2 0;body 0 2 0", "seen with two on one place", x -> x.seen(0, 1), 1);
+        edge.still("mask #;body 0 2 0;body 0 0 0;body 0 4 0", "seen with the first as the third", x -> x.seen(1, 2), 1);
+        edge.still("mask #;body 0 0 0" + ";body 0 2 0".repeat(8) + ";body 0 4 0", "seen of ten", x -> x.seen(0, 9), 1);
+        edge.still("mask #;body 0 0 0;body 0 4 0" + ";body 0 9 9".repeat(7) + ";body 0 2 0", "seen with the tenth as the third",
+            x -> x.seen(0, 1), 1);
+        MaskTouch anew = Due.field("mask #;body 0 0 0;body 0 4 0;body 0 2 0");
+        Due.tell(anew, "mask #;body 0 0 0;body 0 4 0");
+        due.is("seen with a third that is gone", anew.seen(0, 1), 0);
+        due.is("at a third that is gone", anew.at(2, 0), 0);
+        due.is("a ray to a third that is gone", anew.ray(2, 0, 0, 9), -2);
+        due.is("contacts with a third that is gone", anew.contact(-1), 0);
+        due.is("reach past a third that is gone", anew.reach(0, 9, 0, 0), 3);
         edge.still("mask #;body 0 -999 -999;body 0 999 999;body 0 0 0", "seen from end to end", x -> x.seen(0, 1), 1);
         edge.still("mask box 100 40;body 0 -999 0;body 0 999 0;body 0 0 0", "seen through the largest", x -> x.seen(0, 1), 100);
     }

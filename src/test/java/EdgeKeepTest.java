@@ -71,8 +71,10 @@ public final class EdgeKeepTest {
         due.is("undo the second: the dot", x.dot(0, 1, 0), 0);
         due.is("undo the second: the first stays", x.body(0, 3), 1);
         due.is("undo the second: as it lies", x.at(1, 0), 1);
+        due.is("undo the second: no dot beside", x.at(0, 0), 0);
         due.is("undo the first", x.undo(), 0);
         due.is("undo the first: as it lies", x.at(0, 0), 1);
+        due.is("undo the first: no dot beside", x.at(1, 0), 0);
     }
 
     /** Acts and undos in turn, more than there are places for acts. */
@@ -366,19 +368,19 @@ public final class EdgeKeepTest {
     /** An object is used for 512 calls: the last is as good as the first. */
     private static void calls512() {
         MaskTouch x = new MaskTouch();
-        int calls = 0;
-        while (calls < 506) {
+        for (int calls = 0; calls < 504; calls += 6) {
             x.feed(0x6D61736B, 0x20232E3B, 0x626F6479, 0x20302030, 0x20302020);
             x.tell();
             x.ticks(1);
             x.turn(0, 1, 0);
-            x.keep(calls % 2);
+            x.keep(0);
             x.undo();
-            calls += 6;
         }
-        due.is("call 507", x.count(6), 1);
-        due.is("call 508", x.place(0, 5, 5), 1);
-        due.is("call 509", x.undo(), 1);
+        due.is("call 505", x.count(6), 1);
+        due.is("call 506", x.count(3), 1);
+        due.is("call 507", x.place(0, 5, 5), 1);
+        due.is("call 508", x.undo(), 1);
+        due.is("call 509", x.keep(1), 1);
         due.is("call 510", x.back(0), 1);
         due.is("call 511", x.dot(0, 1, 0), 1);
         due.is("call 512", x.at(1, 0), 1);

@@ -189,6 +189,12 @@ public final class EdgeMasksTest {
         MaskTouch hook = Due.field("mask ...#/##.#/...#/####");
         due.is("island of the least y", hook.island(0, 0, 0), 7);
         due.is("island of the least y: the next", hook.island(0, 1, 0), 2);
+        MaskTouch tall = Due.field("mask #" + "/.".repeat(39) + ";mask " + "./".repeat(39) + "#");
+        due.is("island of 40 rows, in the first", tall.island(0, 0, 4), 0);
+        due.is("island of 40 rows, in the last", tall.island(1, 0, 2), 39);
+        due.is("no second island of 40 rows", tall.island(0, 1, 0), -1);
+        due.is("no second island of 40 rows, in the last", tall.island(1, 1, 0), -1);
+        due.is("no island 40 of 40 rows", tall.island(0, 40, 0), -1);
         int[] full = {4000, 0, 0, 99, 39};
         for (int what = 0; what <= 4; what++) {
             due.is("island of the largest, what " + what, Due.field("mask box 100 40").island(0, 0, what), full[what]);
@@ -233,6 +239,12 @@ public final class EdgeMasksTest {
             int bits = want[i];
             edge.still("mask " + forms[i], "like", x -> x.like(0), bits);
         }
+        // What makes it unlike is in its last row, and its last place.
+        edge.still("mask ###/###/###/###/##.", "like but for the last place", x -> x.like(0), 1);
+        edge.still("mask .##/###/###/###/##.", "like turned half round", x -> x.like(0), 9);
+        edge.still("mask ###/###/###/#.#/##.", "like but for two of the last", x -> x.like(0), 1);
+        edge.still("mask #./#./#./#./.#/.#/.#/.#", "like turned half round, eight rows", x -> x.like(0), 9);
+        edge.still("mask #./#./#./#./#./#./#./.#", "like not, by the last of eight rows", x -> x.like(0), 1);
         edge.still(FOUR, "like of the last mask", x -> x.like(3), 1);
         edge.still(FOUR, "like of mask -1", x -> x.like(-1), -1);
         edge.still(FOUR, "like of mask 4", x -> x.like(4), -1);
@@ -349,6 +361,9 @@ public final class EdgeMasksTest {
         edge.still(field, "spread of mask 7", x -> x.spread(7, 0), -1);
         edge.still("mask #" + ".".repeat(98) + "#", "spread of 100", x -> x.spread(0, 2), 99);
         edge.still("mask #" + "/.".repeat(38) + "/#", "spread of 40", x -> x.spread(0, 2), 39);
+        edge.still("mask " + ".".repeat(99) + "#", "spread of the last place", x -> x.spread(0, 2), 0);
+        edge.still("mask " + ".".repeat(98) + "##", "spread of the last two places", x -> x.spread(0, 2), 1);
+        edge.still("mask " + "./".repeat(39) + "#", "spread of the lowest place", x -> x.spread(0, 2), 0);
         // The two that are farthest apart lie across, downwards or upwards.
         edge.still("mask #.../..#./...#", "spread downwards", x -> x.spread(0, 2), 5);
         edge.still("mask ...#/.#../#...", "spread upwards", x -> x.spread(0, 2), 5);
@@ -398,6 +413,8 @@ public final class EdgeMasksTest {
         edge.still(field, "alike of mask 6", x -> x.alike(6, 0, 0), -1);
         edge.still(field, "alike with mask -1", x -> x.alike(0, -1, 0), -1);
         edge.still(field, "alike with mask 6", x -> x.alike(0, 6, 0), -1);
+        edge.still("mask ##/##/##/##/#.;mask ##/##/##/##/.#", "alike but for the last row", x -> x.alike(0, 1, 0), 0);
+        edge.still("mask ##/##/##/##/#.;mask ##/##/##/##/.#", "alike with the last row turned", x -> x.alike(0, 1, 1), 1);
         edge.still("mask .;mask ..", "alike without dots, of two widths", x -> x.alike(0, 1, 0), 0);
         edge.still("mask .;mask ./.", "alike without dots, of two heights", x -> x.alike(0, 1, 0), 0);
         edge.still("mask .;mask .", "alike without dots", x -> x.alike(0, 1, 3), 1);
